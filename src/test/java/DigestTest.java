@@ -1,0 +1,33 @@
+import java.security.MessageDigest;
+import java.security.NoSuchAlgorithmException;
+import java.util.Random;
+
+/** Promise 11: digest. */
+public final class DigestTest {
+    public static void main(String[] args) throws NoSuchAlgorithmException {
+        MessageDigest sha = MessageDigest.getInstance("SHA-256");
+        Random random = new Random(2);
+        Check again = new Check();
+        for (int size = 0; size <= 2000; size++) {
+            if (size > 1980 && size < 2000) {
+                continue; // what twenties do not reach without being FULL
+            }
+            byte[] bytes = new byte[size];
+            random.nextBytes(bytes);
+            again.put(Check.text(bytes));
+            Check.due("digest() of " + size + " bytes", again.seal.digest(), 32);
+            Check.due("digest of " + size + " bytes", again.out(), Check.text(sha.digest(bytes)));
+        }
+        sizesThatOnlyACutReaches(sha);
+        Check.finish();
+    }
+
+    private static void sizesThatOnlyACutReaches(MessageDigest sha) {
+        for (int size = 1981; size < 2000; size++) {
+            Check check = new Check().put("\u00ff".repeat(2000));
+            check.seal.end(size);
+            check.seal.digest();
+            Check.due("digest of " + size + " bytes", check.out(), Check.text(sha.digest(Check.bytes("\u00ff".repeat(size)))));
+        }
+    }
+}

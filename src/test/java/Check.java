@@ -53,14 +53,17 @@ final class Check {
         return this;
     }
 
-    /** The tape's size, told by the largest cut that is not refused; the tape is left as it is. */
+    /** The tape's size, told by one feed more, which is cut off again. */
     int tapeSize() {
-        for (int n = 2000; n >= 0; n--) {
-            if (seal.end(n) == n) {
-                return n;
-            }
+        int more = seal.feed(0, 0, 0, 0, 0);
+        if (more != PlainSeal.FULL) {
+            return seal.end(more - 20);
         }
-        return -1;
+        int size = 2000;
+        while (size > 1980 && seal.end(size) == PlainSeal.REFUSED) {
+            size--;
+        }
+        return size;
     }
 
     String out() {

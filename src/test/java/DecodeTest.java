@@ -31,8 +31,10 @@ public final class DecodeTest {
         Check.due("all letters", check.out(), Check.text(Base64.getDecoder().decode(LETTERS)));
         for (int b = 0; b < 256; b++) {
             boolean isLetter = LETTERS.indexOf(b) >= 0;
-            Check one = new Check().put("AA" + (char) b + "A");
-            Check.due("decode with byte " + b, one.seal.decode(3), isLetter ? 3 : PlainSeal.NONE);
+            for (int at = 0; at < 8; at++) {
+                Check one = new Check().put("A".repeat(at) + (char) b + "A".repeat(7 - at));
+                Check.due("decode with byte " + b + " at " + at, one.seal.decode(6), isLetter ? 6 : PlainSeal.NONE);
+            }
         }
     }
 

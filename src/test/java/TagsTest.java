@@ -98,17 +98,28 @@ public final class TagsTest {
         value(check, "abcdefgh", "\0\u00ff\r:");
         value(check, "z", "end");
         value(check, "v", "1");
+        noValues(check);
+        Check many = new Check();
+        many.put(manyTags(40)).seal.tags();
+        value(many, "a", "0");
+        value(many, "z", "25");
+        value(many, "aa", "26");
+        value(many, "nn", "39");
+        noValue(many, "oo");
+        Check.due("the longest value", Check.longOut(TagsTest::longestValue), "x".repeat(1998));
+    }
+
+    private static void noValues(Check check) {
         for (String none : new String[] {"", "b", "bhx", "bh=Ab", "bh=", "V", " v", "v ", "v\n", "abcdefg", "abcdefghi", "x", "w", ";"}) {
             noValue(check, none);
         }
-        check.put(manyTags(40)).seal.tags();
-        value(check, "a", "0");
-        value(check, "z", "25");
-        value(check, "aa", "26");
-        value(check, "nn", "39");
-        noValue(check, "oo");
+    }
+
+    private static Check longestValue() {
+        Check check = new Check();
         check.put("a=" + "x".repeat(1998)).seal.tags();
-        value(check, "a", "x".repeat(1998));
+        Check.due("tag() of the longest value", check.put("a").seal.tag(), 1998);
+        return check;
     }
 
     private static void refusedKeepsTheTagsBefore() {

@@ -93,7 +93,7 @@ public final class TapeTest {
         }
     }
 
-    private static int read(PlainSeal seal, int which) {
+    private static int read(Counted seal, int which) {
         switch (which) {
             case 0: return seal.message();
             case 1: return seal.named();

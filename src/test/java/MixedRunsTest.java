@@ -47,7 +47,7 @@ public final class MixedRunsTest {
     }
 
     private void step(String where) {
-        switch (random.nextInt(16)) {
+        switch (random.nextInt(19)) {
             case 0: case 1: feedBits(where, MESSAGE_BITS); break;
             case 2: feedBits(where, TAG_BITS); break;
             case 3: feed(where, NAMES[random.nextInt(NAMES.length)]); break;
@@ -61,6 +61,8 @@ public final class MixedRunsTest {
             case 11: tag(where); break;
             case 12: decode(where); break;
             case 13: power(where); break;
+            case 14: digest(where); break;
+            case 15: feedMany(where); break;
             default: octets(where); break;
         }
     }
@@ -70,6 +72,19 @@ public final class MixedRunsTest {
         int count = random.nextInt(14);
         for (int i = 0; i < count; i++) {
             text.append(bits[random.nextInt(bits.length)]);
+        }
+        feed(where, text.toString());
+    }
+
+    /** About as many fields or tags as there may be, sometimes two of the same letters among them. */
+    private void feedMany(String where) {
+        StringBuilder text = new StringBuilder();
+        boolean ofFields = random.nextBoolean();
+        int count = ofFields ? 17 + random.nextInt(6) : 37 + random.nextInt(6);
+        int twice = random.nextInt(4) == 0 ? random.nextInt(count) : -1;
+        for (int i = 0; i < count; i++) {
+            char letter = (char) ('a' + (i == twice ? 0 : i % 26));
+            text.append(i < 26 ? "" : "z").append(letter).append(ofFields ? ":v\n" : "=v;");
         }
         feed(where, text.toString());
     }
@@ -241,6 +256,11 @@ public final class MixedRunsTest {
             want = 64;
         }
         Check.due(where + "power", seal.power(), want);
+    }
+
+    private void digest(String where) {
+        out = Check.sha256(takeTape());
+        Check.due(where + "digest", seal.digest(), 32);
     }
 
     private void octets(String where) {
